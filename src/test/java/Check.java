@@ -1,4 +1,10 @@
-/** Counts and prints the answers that are not as due; each test ends by finish(). */
+import java.lang.reflect.InvocationTargetException;
+import java.lang.reflect.Method;
+import java.lang.reflect.Modifier;
+import java.util.Arrays;
+import java.util.Comparator;
+
+/** Counts and prints the answers that are not as due; each test ends by finish() or is run by all(). */
 final class Check {
     interface Call {
         long answer();
@@ -6,15 +12,19 @@ final class Check {
 
     private static int wrong = 0;
     private static int asked = 0;
+    private static String test = "";
 
     private Check() {
     }
 
     static void same(String what, long got, long due) {
+        same(what, Long.toString(got), Long.toString(due));
+    }
+
+    static void same(String what, String got, String due) {
         asked++;
-        if (got != due) {
-            wrong++;
-            System.out.println(what + " answered " + got + ", due is " + due);
+        if (!got.equals(due)) {
+            fail(what + " answered " + got + ", due is " + due);
         }
     }
 
@@ -28,18 +38,49 @@ final class Check {
 
     /** The exception must be of the very class that is due, not of one below it. */
     static void refused(String what, Class<? extends RuntimeException> due, Call call) {
-        asked++;
-        String got;
+        same(what, answer(call), "throws." + due.getSimpleName());
+    }
+
+    /** What a call answers, as the issues write it. */
+    static String answer(Call call) {
         try {
-            got = "answered " + call.answer();
+            return Long.toString(call.answer());
         } catch (RuntimeException e) {
-            if (e.getClass() == due) {
-                return;
-            }
-            got = "threw " + e.getClass().getName();
+            return "throws." + e.getClass().getSimpleName();
         }
+    }
+
+    private static void fail(String text) {
         wrong++;
-        System.out.println(what + " " + got + ", due is " + due.getName());
+        System.out.println(test + text);
+    }
+
+    /** Runs each test of a class: its methods without parameters, each of which has to ask something. */
+    static void all(Class<?> tests) {
+        Method[] methods = tests.getDeclaredMethods();
+        Arrays.sort(methods, Comparator.comparing(Method::getName));
+        for (Method method : methods) {
+            if (method.getParameterCount() == 0 && !Modifier.isPrivate(method.getModifiers())) {
+                one(tests, method);
+            }
+        }
+        test = "";
+        finish();
+    }
+
+    private static void one(Class<?> tests, Method method) {
+        test = tests.getSimpleName() + "." + method.getName() + ": ";
+        int before = asked;
+        try {
+            method.invoke(null);
+        } catch (InvocationTargetException e) {
+            fail("threw " + e.getCause());
+        } catch (IllegalAccessException e) {
+            fail("cannot be run");
+        }
+        if (asked == before) {
+            fail("asked nothing");
+        }
     }
 
     static void finish() {

@@ -8,7 +8,7 @@ public final class RoomTest {
     private static final long MOST_BYTES = 2900000;
 
     public static void main(String[] args) {
-        dearestCalls(8);
+        dearestCalls(136);
         long before = THREADS.getCurrentThreadAllocatedBytes();
         dearestCalls(512);
         long made = THREADS.getCurrentThreadAllocatedBytes() - before;
@@ -27,7 +27,8 @@ public final class RoomTest {
             Texts.read(ground, "r=" + "0+".repeat(57) + i + "-" + i);
             ground.attempt(0, i % 8, false);
         }
-        for (int done = 0; done < calls; done += 12) {
+        // 110 calls so far, and 13 a turn: a text of six feeds, its end and read, and five more.
+        for (int done = 110; done + 13 <= calls; done += 13) {
             Texts.read(ground, longest);
             ground.run(0, 0, 0);
             ground.attempt(1, 0, false);
