@@ -7,7 +7,8 @@ public final class RandomRunsTest {
     private static final String[] SUMS = {"r=a+b", "r=b+a", "c=a;r=c+b", "d=a;r=d+b", "c=b;d=a;r=c+d", "d=b;c=a;r=d+c",
         "r=a;r=r+b", "r=a-(0-b)", "if a<b{r=a+b}else{r=b+a}", "r=a;while 0<b{r=r+1;b=b-1};r=r+b", "r=a*1+b",
         "r=a+b+0", "r=(a+b)/1", "c=1;while c{c=0;while 0{d=1};r=a+b}", "d=0;r=a+b", "c=00;r=a+b", "r=(a+b)%1000",
-        "c=d;r=a+b", "d=c;r=a+b", "r=a+b;if r{c=1}", "r=0-(0-a-b)", "while r<a+b{r=r+1};r=a+b"};
+        "c=d;r=a+b", "d=c;r=a+b", "c=c;r=a+b", "c=b;d=a;r=d+c", "r=a+b;if r{c=1}", "r=0-(0-a-b)",
+        "while r<a+b{r=r+1};r=a+b"};
 
     private final Random random;
     private final PracticeGround ground = new PracticeGround();
